@@ -20,6 +20,7 @@ public final class AirTest {
         countsMinutes();
         tellsAir();
         fallsAsDew();
+        looksUpByCutWarmth();
         bindsVapour();
         steersByStorm();
         Random random = new Random(7);
@@ -50,6 +51,10 @@ public final class AirTest {
             x.part(1)}, 1, 1, 1, 1);
         Check.all("bad", new long[] {x.part(NO_NUMBER), x.part(-1L), x.part(bits(-1e-320)), x.part(bits(-1)),
             x.part(bits(Double.NEGATIVE_INFINITY))}, BAD, BAD, BAD, BAD, BAD);
+        GlassHouse first = new GlassHouse();
+        for (int p = 0; p < 9; p += 3) first.read(p, bits(p == 0 ? 22.0 : p == 3 ? 20.0 : 17.999999));
+        first.minute(1);
+        Check.all("2.0 at first", new long[] {first.probe(0, 3), first.probe(3, 3), first.probe(6, 2)}, 1, 1, 1);
         x.part(bits(0.5));
         for (int p = 0; p < 9; p += 3) x.read(p, bits(p * 0.25));
         x.part(bits(0.75));
@@ -282,6 +287,25 @@ public final class AirTest {
         w.line(0, 0, 100);
         w.minute(1);
         Check.all("with its offset", new long[] {w.air(0, 1), w.laid(0), w.laid(1)}, 101, 1, 0);
+    }
+
+    private static void looksUpByCutWarmth() {
+        GlassHouse x = new GlassHouse();
+        x.line(0, 19, 100);
+        x.line(0, 20, 200);
+        x.weather(3, 1);
+        x.weather(1, 20000);
+        x.minute(1);
+        Check.all("just 20000", new long[] {x.air(0, 0), x.air(0, 1)}, 20000, 200);
+        GlassHouse y = new GlassHouse();
+        y.line(0, -2, 2);
+        y.line(0, -1, 5);
+        y.line(0, 0, 9);
+        y.weather(3, 1);
+        y.weather(1, -40000);
+        for (int i = 0; i < 200 && y.air(0, 0) > -1100; i++) y.minute(1);
+        Check.holds("between -1 and -2: " + y.air(0, 0), y.air(0, 0) > -1999);
+        Check.due("cut to -1", y.air(0, 1), 5);
     }
 
     private static void bindsVapour() {

@@ -33,6 +33,7 @@ public final class PestsTest {
             x.parts(0, 0, 1001, 0, 0), x.parts(0, 0, -1, 0, 0), x.parts(0, 0, 0, 1001, 0), x.parts(0, 0, 0, -1, 0),
             x.parts(0, 0, 0, 0, 1001), x.parts(0, 0, 0, 0, -1)}, BAD, BAD, BAD, BAD, BAD, BAD, BAD, BAD, BAD, BAD);
         Check.due("parts", x.parts(1, 3, 1000, 1000, 1000), 1);
+        Check.due("none", x.count(1, 3, 0) * 10 + x.pest(1, 3), 10);
     }
 
     private static void passesDays() {

@@ -256,7 +256,6 @@ public final class RowsTest {
 
     private static void setsAndLifts() {
         GlassHouse x = new GlassHouse();
-        int[] things = new int[16];
         for (int lane = 0; lane < 8; lane++) x.row(lane, lane, 2);
         for (int form = 8; form < 11; form++) {
             x.grid(15, form, 2, 2, true);
@@ -296,8 +295,8 @@ public final class RowsTest {
         Check.due("lift BAD", x.lift(0, 16, 0), BAD);
         Check.due("lift into the same bin", x.lift(14, 14, 0), 1);
         Check.due("so", x.form(14), 9);
-        things[0] = x.told(1);
-        Check.due("lifting makes none", x.lift(10, 14, 0) + x.told(1), 1 + things[0]);
+        int made = x.told(1);
+        Check.due("lifting makes none", x.lift(10, 14, 0) + x.told(1), 1 + made);
     }
 
     private static void liftsAs() {

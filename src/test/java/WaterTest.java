@@ -96,7 +96,7 @@ public final class WaterTest {
         Check.due("ZERO", x.fault(), 6);
         Check.due("by 0 in ints", x.quotient(4, 5, 1L << 32, 1), 0);
         Check.due("two faults", x.told(2), 2);
-        Check.all("bad", new long[] {x.quotient(3, 8, 2, 0), x.quotient(6, 8, 2, 0), x.quotient(4, 8, 2, 2), x.quotient(4, 8, 2, -1),
+        Check.all("bad", new long[] {x.quotient(3, 8, 2, 0), x.quotient(6, 8, 2, 0), x.quotient(4, 9, 2, 2), x.quotient(4, 9, 2, -1),
             x.quotient(7, 8, 0, 0)}, 0, 0, 0, 0, 0);
         Check.due("no more faults", x.told(2), 2);
     }
@@ -166,7 +166,13 @@ public final class WaterTest {
         x.row(4, 7, 3);
         x.put(4, 7, 0, bits(-Double.MIN_VALUE));
         Check.due("cut to -0.0", x.real(7, 4, 2), bits(-0.0));
+        for (double mean : new double[] {1.0, 0.1, -1.0, 2.0, 0.5, 4503599627370496.0, 9007199254740991.0, Double.MIN_NORMAL}) {
+            x.put(3, 7, 0, bits(mean));
+            Check.due("the mean of one", x.real(7, 3, 2), bits(mean));
+        }
         int faults = x.told(2);
+        x.put(0, 7, 2, bits(6));
+        x.put(0, 7, 3, bits(6));
         Check.all("bad", new long[] {x.real(5, 0, 0), x.real(8, 0, 0), x.real(7, 16, 0), x.real(7, 0, 4), x.real(7, 0, -1)},
             0, 0, 0, 0, 0);
         Check.due("no faults", x.told(2), faults);
