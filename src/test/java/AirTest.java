@@ -244,6 +244,7 @@ public final class AirTest {
         Check.due("one", x.minute(1), 1);
         Check.due("hundred", x.minute(100), 101);
         Check.due("told", x.told(0), 101);
+        // No 512 calls come so far: that the limit is here can only be seen behind what is promised.
         for (int i = 0; i < 998; i++) x.minute(100);
         Check.due("up to the last", x.minute(99), 100000);
         Check.due("full", x.minute(1), FULL);
@@ -352,7 +353,7 @@ public final class AirTest {
     private static void oneSeason(Random random) {
         GlassHouse x = new GlassHouse();
         Season season = new Season();
-        for (int i = 0; i < 40; i++) {
+        for (int i = 0; i < 40 && season.compared < 5; i++) {
             switch (random.nextInt(6)) {
                 case 0: case 1: {
                     int p = random.nextInt(9);
@@ -422,6 +423,7 @@ public final class AirTest {
         final long[][] air = new long[3][11];
         double part = 2.0;
         int minute;
+        int compared;
 
         Season() {
             Arrays.fill(reading, Double.NaN);
@@ -535,6 +537,7 @@ public final class AirTest {
         }
 
         void compare(GlassHouse x) {
+            compared++;
             for (int p = 0; p < 9; p++) {
                 int[] want = {why[p] == 0 ? 1 : 0, why[p], off[p], near[p], same[p]};
                 for (int what = 0; what < 5; what++) Check.due("probe " + p + " " + what, x.probe(p, what), want[what]);

@@ -69,14 +69,14 @@ public final class RowsTest {
     }
 
     private static void keepsBitsOfLanes() {
-        GlassHouse x = new GlassHouse();
-        for (int lane = 0; lane < 8; lane++) x.row(lane, lane, 2);
         long[] samples = {0, 1, -1, 2, 127, 128, 255, 256, -128, -129, 32767, 32768, 65535, 65536, 70000, -70000,
             2147483647L, 2147483648L, -2147483648L, -2147483649L, Long.MAX_VALUE, Long.MIN_VALUE,
             0x7F800000L, 0x7F800001L, 0xFF800000L, 0xFFC00001L, 0x7FC00000L, 0x80000000L, 0x1FFFFFFFFL,
             0x7FF0000000000000L, 0x7FF0000000000001L, 0xFFF0000000000000L, 0xFFF8000000000000L, 0x3FF0000000000000L};
-        for (long bits : samples) {
-            for (int lane = 0; lane < 8; lane++) {
+        for (int lane = 0; lane < 8; lane++) {
+            GlassHouse x = new GlassHouse();
+            x.row(lane, lane, 2);
+            for (long bits : samples) {
                 Check.due("put", x.put(lane, lane, 1, bits), 1);
                 Check.due("lane " + lane + " of " + bits, x.get(lane, lane, 1), machineBits(lane, bits));
                 Check.due("the other cell", x.get(lane, lane, 0), 0);

@@ -92,7 +92,10 @@ public final class ToldTest {
         Check.due("and are counted", x.told(2), 3001);
         Check.due("stock", x.setStock(0, 1), 1);
         GlassHouse y = new GlassHouse();
-        for (int i = 0; i < 2999; i++) y.put(0, 4, 0, 1);
+        y.setStock(0, 148);
+        for (int[] s : steps) y.step(0, s[0], s[1], 0, 0);
+        for (int i = 0; i < 29; i++) y.run(0);
+        for (int i = 0; i < 99; i++) y.put(0, 4, 0, 1);
         Check.due("2999 are not yet as many", y.row(0, 4, -1), SIZE);
         Check.due("now they are", y.row(0, 4, -1), FULL);
     }

@@ -122,10 +122,13 @@ public final class WaterTest {
     }
 
     private static void comparesAtRandom(Random random) {
-        GlassHouse x = new GlassHouse();
-        x.row(0, 6, 2);
-        x.row(1, 7, 2);
+        GlassHouse x = null;
         for (int round = 0; round < 3000; round++) {
+            if (round % 80 == 0) {
+                x = new GlassHouse();
+                x.row(0, 6, 2);
+                x.row(1, 7, 2);
+            }
             int a = floatBits(random);
             int b = random.nextInt(3) == 0 ? a : floatBits(random);
             x.put(0, 6, 0, a);
@@ -186,7 +189,7 @@ public final class WaterTest {
             boolean narrow = random.nextBoolean();
             int many = 1 + random.nextInt(random.nextInt(4) == 0 ? 40 : 4);
             int lane = narrow ? 6 : 7;
-            x = round % 100 == 0 ? new GlassHouse() : x;
+            x = round % 10 == 0 ? new GlassHouse() : x;
             x.row(0, lane, many);
             double[] numbers = new double[many];
             int found = 0;
@@ -296,6 +299,7 @@ public final class WaterTest {
             if (random.nextBoolean()) f[2] = f[0].clone();
             if (random.nextInt(3) == 0) for (int s = 0; s < 4; s++) f[s][2] = f[s][0];
             if (random.nextInt(3) == 0) for (int s = 0; s < 4; s++) f[s][1] = Math.min(99, f[s][0] * 2);
+            if (round % 10 == 0) x = new GlassHouse();
             feed(x, f);
             int answer = x.work();
             answers[answer]++;
