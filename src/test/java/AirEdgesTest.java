@@ -31,6 +31,7 @@ public final class AirEdgesTest {
         cutsTowards0();
         isWetAndBound();
         fallsAboveTheTable();
+        looksAtWholeThousands();
         goesOneTo100Minutes();
         Check.end();
     }
@@ -633,6 +634,34 @@ public final class AirEdgesTest {
         z.line(2, 0, 5);
         z.minute(1);
         Check.due("TABLES 1 and 2 are not it", z.told(10), 0);
+    }
+
+    private static void looksAtWholeThousands() {
+        // VENT 0: a hundredth of what OUTSIDE is below is LOST
+        int[][] rows = {{20000, 20000, 20}, {19900, 19999, 19}, {20100, 20001, 20}, {-40000, 19400, 19}, {60000, 20400, 20}};
+        for (int[] r : rows) {
+            GlassHouse x = new GlassHouse();
+            for (int at = 18; at <= 22; at++) x.line(0, at, 10 * at);
+            x.weather(3, 1);
+            x.weather(1, r[0]);
+            x.minute(1);
+            Check.all("at WARMTH / 1000 (cut), as it is then", new long[] {x.air(1, 0), x.air(1, 1)}, r[1], 10 * r[2]);
+        }
+        GlassHouse x = new GlassHouse();
+        x.line(0, -1, 1);
+        x.line(0, 0, 2);
+        x.line(0, 1, 3);
+        x.weather(3, 1);
+        x.weather(1, -40000);
+        long[] seen = {0, 0, 0};
+        for (int i = 0; i < 80; i++) {
+            x.minute(1);
+            long warmth = x.air(0, 0);
+            if (warmth >= 2000 || warmth <= -2000) continue;
+            seen[(int) (warmth / 1000) + 1]++;
+            Check.due("round 0, cut towards it: " + warmth, x.air(0, 1), warmth / 1000 + 2);
+        }
+        Check.holds("-1999 to -1000, -999 to 999, 1000 to 1999", seen[0] > 0 && seen[1] > 0 && seen[2] > 0);
     }
 
     private static void goesOneTo100Minutes() {

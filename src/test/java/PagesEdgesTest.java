@@ -429,6 +429,20 @@ public final class PagesEdgesTest {
         for (int[] s : steps) x.step(0, s[0], s[1], 0, 0);
         Check.due("also of a RUN, that went out", x.run(0) * 10 + x.fault(), -170 + 7);
         Check.due("also those that arose in a RUN", x.told(2), 5);
+        x.put(9, 4, 0, 1);
+        x.drop(0);
+        Check.due("a RUN without one", x.run(0) + x.fault(), 1);
+        x.step(0, 16, 0, 0, 0);
+        x.step(0, 7, 0, 0, 0);
+        x.step(0, 0, 0, 0, 0);
+        x.step(0, 17, 0, 0, 0);
+        x.step(0, 0, 0, 0, 0);
+        Check.due("a RUN out of which none went", x.run(0) + x.fault(), 1);
+        x.put(0, 4, 1, 1);
+        Check.due("INDEX", x.fault(), 2);
+        x.quotient(4, 1, 0, 0);
+        x.get(0, 3, 0);
+        Check.due("the latest of several", x.fault(), 4);
     }
 
     private static void endsWith4000Things() {

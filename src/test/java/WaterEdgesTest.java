@@ -19,6 +19,8 @@ public final class WaterEdgesTest {
         findsFaultsOfCompares();
         tellsRealsOfNoneOneAndForty();
         addsUpInOrder();
+        widensFloats();
+        meansDoublesOfAllSizes();
         meansWholes();
         hasSaltsOf0To99();
         worksEachRank();
@@ -244,6 +246,48 @@ public final class WaterEdgesTest {
         x.put(1, 7, 0, 0);
         x.put(1, 7, 1, 1L << 63);
         Check.all("-0.0 below 0.0", new long[] {x.real(7, 1, 0), x.real(7, 1, 1), x.real(7, 1, 3)}, 1L << 63, 0, 1L << 63);
+    }
+
+    private static void widensFloats() {
+        int[] some = {0, 1, 2, 3, 0x3FFFFF, 0x400000, 0x7FFFFE, 0x7FFFFF, 0x800000, 0x800001, 0xFFFFFF, 0x1000000, 0x3F7FFFFF, 0x3F800000, 0x3F800001,
+            0x7F7FFFFF, 0x7F800000};
+        for (int one : some) {
+            for (int sign = 0; sign < 2; sign++) {
+                GlassHouse x = new GlassHouse();
+                x.row(0, 6, 1);
+                int cell = one | sign << 31;
+                x.put(0, 6, 0, cell);
+                double d = Float.intBitsToFloat(cell);
+                Check.all("as a double: " + cell, new long[] {x.get(0, 6, 0), x.real(6, 0, 0), x.real(6, 0, 1), x.real(6, 0, 2), x.real(6, 0, 3)},
+                    cell, bits(d), bits(d), bits(0.0 + d), bits(d));
+            }
+        }
+        for (int i = 1; i < some.length; i++) {
+            GlassHouse x = new GlassHouse();
+            x.row(0, 6, 2);
+            x.put(0, 6, 0, some[i - 1]);
+            x.put(0, 6, 1, some[i]);
+            Check.due("the next is greater", x.compare(6, 0, 0, 0, 1) * 100 + x.compare(6, 0, 1, 0, 0), (1 + 2 + 32) * 100 + 4 + 8 + 32);
+        }
+    }
+
+    private static void meansDoublesOfAllSizes() {
+        long[] some = {0, 1, 2, 3, 0x0007FFFFFFFFFFFFL, 0x0008000000000000L, 0x000FFFFFFFFFFFFFL, 0x0010000000000000L, 0x0010000000000001L,
+            0x001FFFFFFFFFFFFFL, 0x0020000000000000L, 0x3FEFFFFFFFFFFFFFL, 0x3FF0000000000000L, 0x4330000000000000L, 0x433FFFFFFFFFFFFFL, 0x4340000000000000L,
+            0x44F0000000000000L, 0x7FE0000000000000L, 0x7FEFFFFFFFFFFFFFL, 0x7FF0000000000000L};
+        for (long one : some) {
+            for (long sign : new long[] {0, 1L << 63}) {
+                GlassHouse x = new GlassHouse();
+                x.row(0, 7, 3);
+                double d = Double.longBitsToDouble(one | sign);
+                x.put(0, 7, 0, one | sign);
+                Check.due("by 3: " + d, x.real(7, 0, 2), bits((0.0 + d) / 3));
+                x.put(0, 7, 1, NO_NUMBER);
+                Check.due("by 2: " + d, x.real(7, 0, 2), bits((0.0 + d) / 2));
+                x.put(0, 7, 2, NO_NUMBER);
+                Check.due("alone: " + d, x.real(7, 0, 2), bits(0.0 + d));
+            }
+        }
     }
 
     private static void meansWholes() {
