@@ -22,6 +22,7 @@ public final class ActsEdgesTest {
         keepsUpToTheLastStep();
         goesAgain1To9Times();
         catches0To8();
+        isMetByTheFirstThatIsForIt();
         looksWhetherAbove0();
         nestsAsDeepAsMayBe();
         countsEachStepThatBegins();
@@ -359,6 +360,43 @@ public final class ActsEdgesTest {
                 ran(x, "CATCH", met ? 3 : 0, met ? 3 : 2, met ? NONE : 1, 0, met ? 1 : 0, 0, 0, met || kinds[i] != 8 ? 0 : 5, 1);
                 Check.due("fault()", x.fault(), met ? 0 : kinds[i]);
             }
+        }
+    }
+
+    private static void isMetByTheFirstThatIsForIt() {
+        // CATCHES with bodies in their bodies, two for the FAULT, all others for other ones
+        for (int many = 1; many <= 7; many++) {
+            for (int meets = 0; meets < many; meets++) {
+                GlassHouse x = yard();
+                x.step(0, TRY, 0, 0, 0);
+                x.step(0, OVER, 0, 0, 0);
+                x.step(0, END, 0, 0, 0);
+                for (int k = 0; k < many; k++) {
+                    x.step(0, CATCH, k == meets || k == meets + 1 ? 6 : 1 + k % 4, 0, 0);
+                    x.step(0, KEEP, 0, 0, 0);
+                    x.step(0, ADD, 1, 1 << k, 0);
+                    x.step(0, END, 0, 0, 0);
+                    x.step(0, END, 0, 0, 0);
+                }
+                x.step(0, ADD, 2, 1, 0);
+                Check.due("the first of its CATCHES that is for it", x.run(0) * 1000 + x.stock(1), 1 << meets);
+                ran(x, "one of " + many, 0, 5, NONE, 0, 1, 0, 0, 0, 1);
+            }
+        }
+        for (int many = 0; many <= 17; many++) {
+            GlassHouse x = yard();
+            x.step(0, TRY, 0, 0, 0);
+            x.step(0, WAKE, 0, 0, 0);
+            x.step(0, END, 0, 0, 0);
+            for (int k = 0; k < many; k++) {
+                x.step(0, CATCH, k == 16 ? 0 : 1 + k % 6, 0, 0);
+                x.step(0, END, 0, 0, 0);
+            }
+            x.step(0, LAST, 0, 0, 0);
+            x.step(0, ADD, 3, 1, 0);
+            x.step(0, END, 0, 0, 0);
+            Check.due("none is for it, or the last: " + many, x.run(0), many == 17 ? 0 : STATE);
+            Check.due("LAST is done behind that", x.ran(5) * 10 + x.ran(4), many == 17 ? 11 : 10);
         }
     }
 

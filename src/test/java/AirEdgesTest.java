@@ -322,6 +322,25 @@ public final class AirEdgesTest {
         x.read(0, bits(3));
         x.minute(100);
         Check.due("the same READING as before", x.probe(0, 4), 101);
+        for (long one : new long[] {0, 1L << 63, 1, -1L >>> 12, 0x7FF0000000000000L, 0xFFF0000000000000L}) {
+            GlassHouse y = new GlassHouse();
+            y.read(3, one);
+            y.minute(8);
+            Check.due("of " + one, y.probe(3, 4) * 10 + y.probe(3, 0), 81);
+            y.read(6, one);
+            y.minute(1);
+            Check.due("STUCK at " + one, y.probe(3, 4) * 10 + y.probe(3, 1), 92);
+            y.read(3, one ^ 1L << 62);
+            y.minute(1);
+            Check.due("no more", y.probe(3, 4), 1);
+            GlassHouse z = new GlassHouse();
+            z.read(0, one);
+            z.read(3, bits(7));
+            z.minute(8);
+            z.read(0, bits(5));
+            z.minute(1);
+            Check.due("from " + one + " to another", z.probe(3, 1) * 10 + z.probe(0, 4), 21);
+        }
     }
 
     private static void hasSixMarks() {

@@ -21,6 +21,7 @@ public final class RowsEdgesTest {
         shiftsNoneOneAndAll();
         shiftsAsIfAllWereTakenAhead();
         shiftsUpToTheFirstThatIsNotFor();
+        shiftsOneByOneWhereverTheyGo();
         copiesEmptyAndFull();
         findsTheLastDifference();
         countsPlacesThatAreNothing();
@@ -331,6 +332,24 @@ public final class RowsEdgesTest {
             Check.due("one FAULT", x.told(2), stop == 8 ? 0 : 1);
             Check.due("a BAD one leaves came()", x.shift(0, 0, 16, 0, 1) * 10 + x.came(), 10 * BAD + stop);
             Check.due("behind a FAULT 0", x.shift(0, 0, 15, 0, 1) * 10 + x.came(), 10 * NULL);
+        }
+    }
+
+    private static void shiftsOneByOneWhereverTheyGo() {
+        for (int i = 0; i < 4; i++) for (int j = 0; j < 4; j++) for (int stop = 0; stop < 4; stop++) {
+            GlassHouse x = new GlassHouse();
+            x.tray(0, 12, 7);
+            x.tray(1, 14, 7);
+            x.plant(2, 3, 1, 1, 0, 0);
+            x.plant(3, 1, 1, 1, 0, 0);
+            for (int k = 0; k < 7; k++) x.set(0, k, k == i + stop ? 3 : 2);
+            Check.due("a STORE", x.shift(0, i, 1, j, 4), STORE);
+            Check.due("those ahead of it have come", x.came(), stop);
+            for (int k = 0; k < 7; k++) {
+                x.lift(4, 1, k);
+                Check.due("place " + k, x.alike(4, 2), k >= j && k < j + stop ? 2 : 0);
+            }
+            Check.due("what they came from stays", x.size(0, 1), 0);
         }
     }
 

@@ -16,6 +16,7 @@ public final class WaterEdgesTest {
         findsFaultsOfShares();
         dividesAsTheMachine();
         comparesAsTheMachine();
+        comparesTheFirstWithTheOther();
         findsFaultsOfCompares();
         tellsRealsOfNoneOneAndForty();
         addsUpInOrder();
@@ -164,6 +165,24 @@ public final class WaterEdgesTest {
         for (int i = 0; i < 11; i++) for (int j = 0; j < 11; j++) {
             Check.due("doubles " + some[i] + " " + some[j], x.compare(7, 0, i, 0, j), stand(some[i], some[j]));
             Check.due("floats " + some[i] + " " + some[j], y.compare(6, 0, i, 0, j), stand((float) some[i], (float) some[j]));
+        }
+    }
+
+    private static void comparesTheFirstWithTheOther() {
+        for (int lane = 6; lane <= 7; lane++) {
+            GlassHouse x = new GlassHouse();
+            x.row(0, lane, 2);
+            x.row(1, lane, 3);
+            double[] first = {1, 5};
+            double[] other = {1, 3, 7};
+            for (int i = 0; i < 2; i++) x.put(0, lane, i, lane == 6 ? Float.floatToIntBits((float) first[i]) : bits(first[i]));
+            for (int j = 0; j < 3; j++) x.put(1, lane, j, lane == 6 ? Float.floatToIntBits((float) other[j]) : bits(other[j]));
+            for (int i = 0; i < 2; i++) for (int j = 0; j < 3; j++) {
+                Check.due("CELLS i of a BIN, j of another one", x.compare(lane, 0, i, 1, j), stand(first[i], other[j]));
+                Check.due("the other way", x.compare(lane, 1, j, 0, i), stand(other[j], first[i]));
+            }
+            Check.due("i is of the first", x.compare(lane, 0, 2, 1, 2), INDEX);
+            Check.due("j is of the other one", x.compare(lane, 1, 2, 0, 2), INDEX);
         }
     }
 
