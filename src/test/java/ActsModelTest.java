@@ -83,7 +83,7 @@ public final class ActsModelTest {
             grow(random, steps, depth + 1, random.nextInt(5));
             steps.add(numbers(random, END));
             if (op != TRY) continue;
-            for (int i = random.nextInt(3); i > 0; i--) {
+            for (int i = random.nextInt(random.nextInt(4) == 0 ? 6 : 3); i > 0; i--) {
                 steps.add(numbers(random, CATCH));
                 grow(random, steps, depth + 1, random.nextInt(3));
                 steps.add(numbers(random, END));

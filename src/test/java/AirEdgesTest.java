@@ -685,7 +685,9 @@ public final class AirEdgesTest {
 
     private static void goesOneTo100Minutes() {
         GlassHouse x = new GlassHouse();
-        for (int n : new int[] {0, -1, 101, LEAST, MOST}) Check.due("n", x.minute(n), BAD);
+        for (int n : new int[] {0, -1, 101}) Check.due("n", x.minute(n), BAD);
+        Check.soFar();
+        for (int n : new int[] {LEAST, MOST}) Check.due("n", x.minute(n), BAD);
         Check.due("1", x.minute(1), 1);
         Check.due("100", x.minute(100), 101);
         GlassHouse one = new GlassHouse();

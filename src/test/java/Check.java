@@ -23,6 +23,11 @@ final class Check {
         for (int i = 0; i < Math.min(got.length, want.length); i++) due(what + " [" + i + "]", got[i], want[i]);
     }
 
+    /** Ends the test at once, if something is not as due: what follows might hardly end then. */
+    static void soFar() {
+        if (wrong != 0) end();
+    }
+
     static void end() {
         System.out.println(wrong == 0 ? looked + " answers are as due" : wrong + " of " + looked + " are not as due");
         if (wrong != 0) System.exit(1);

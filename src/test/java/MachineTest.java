@@ -81,7 +81,7 @@ public final class MachineTest {
             case 15: return x.alike(r[0], r[1]) * 100L + x.size(r[0], much);
             case 16: return x.plant(r[0], near, (int) bits, much, r[1], r[2]);
             case 17: return x.tray(r[0], 12 + near % 4, much);
-            case 18: return x.ask(r[0], near);
+            case 18: return x.ask(r[0], flag ? near : near + 3);
             case 19: return x.card(r[0]);
             case 20: return x.field(r[0], near);
             case 21: return x.setField(r[0], near, bits);
@@ -161,7 +161,10 @@ public final class MachineTest {
                 case 15: return alike(r[0], r[1]) * 100L + sizeOrFault(r[0], much);
                 case 16: return plant(r[0], near, (int) bits, much, r[1], r[2]);
                 case 17: return tray(r[0], 12 + near % 4, much);
-                case 18: return isBin(r[0]) && near >= 0 && near < 8 ? ask(bins[r[0]], near) : BAD;
+                case 18: {
+                    int what = flag ? near : near + 3;
+                    return isBin(r[0]) && what >= 0 && what < 8 ? ask(bins[r[0]], what) : BAD;
+                }
                 case 19: return isBin(r[0]) ? card(r[0]) : BAD;
                 case 20: return isBin(r[0]) && isLane(near) ? get(((Card) bins[r[0]]).fields[near], near, 0) : 0;
                 case 21: return isBin(r[0]) && isLane(near) ? put(((Card) bins[r[0]]).fields[near], near, 0, bits) : BAD;

@@ -13,6 +13,7 @@ public final class PlantsEdgesTest {
         hasTraysOf0To8();
         takesInTraysWhatTheyAreFor();
         asks0To7();
+        tellsOfEachPlantItsOwn();
         wrapsSizes();
         wrapsThirstAndMark();
         cutsCosts();
@@ -159,6 +160,18 @@ public final class PlantsEdgesTest {
             x.plant(1, kind, 1, 1, 0, 0);
             Check.due("both", x.ask(1, 1) + x.ask(1, 2), 2);
         }
+    }
+
+    private static void tellsOfEachPlantItsOwn() {
+        GlassHouse x = new GlassHouse();
+        for (int kind = 5; kind >= 0; kind--) x.plant(10 - kind, kind, 100 + kind, 50 + kind, 9, 15);
+        for (int kind = 0; kind < 6; kind++) {
+            int bin = 10 - kind;
+            Check.all("FIRST, NUMBER, KIND, DEPTH", new long[] {told(x, bin, 4), told(x, bin, 5), told(x, bin, 6), told(x, bin, 7)},
+                kind == GRAFT ? 9 : 7, 5 - kind, kind, kind == GRAFT ? 1 : 0);
+        }
+        Check.due("MARK of the GRAFT", told(x, 8, 3), 9 + 52);
+        Check.due("SIZE of the TOMATO", told(x, 9, 0), 2 * 101 + 51);
     }
 
     private static int told(GlassHouse x, int bin, int what) {

@@ -566,7 +566,9 @@ public final class WaterEdgesTest {
 
     private static void goesOneTo50Days() {
         GlassHouse x = new GlassHouse();
-        for (int n : new int[] {0, -1, 51, LEAST, MOST}) Check.due("n", x.day(n), BAD);
+        for (int n : new int[] {0, -1, 51}) Check.due("n", x.day(n), BAD);
+        Check.soFar();
+        for (int n : new int[] {LEAST, MOST}) Check.due("n", x.day(n), BAD);
         Check.due("1", x.day(1), 1);
         Check.due("50", x.day(50), 51);
         for (int i = 0; i < 198; i++) x.day(50);
