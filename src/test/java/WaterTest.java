@@ -299,6 +299,7 @@ public final class WaterTest {
             if (random.nextBoolean()) f[2] = f[0].clone();
             if (random.nextInt(3) == 0) for (int s = 0; s < 4; s++) f[s][2] = f[s][0];
             if (random.nextInt(3) == 0) for (int s = 0; s < 4; s++) f[s][1] = Math.min(99, f[s][0] * 2);
+            if (random.nextInt(3) == 0) dependRows(random, f);
             if (round % 10 == 0) x = new GlassHouse();
             feed(x, f);
             int answer = x.work();
@@ -328,6 +329,22 @@ public final class WaterTest {
             }
         }
         for (int a = 0; a < 3; a++) Check.holds("answer " + a + " came", answers[a] > 500);
+    }
+
+    /** One row becomes a sum of fractions of the two others, so that a witness needs all three, in unlike parts. */
+    private static void dependRows(Random random, int[][] f) {
+        int a = random.nextInt(3);
+        int b = (a + 1) % 3;
+        int c = (a + 2) % 3;
+        int[] parts = new int[4];
+        for (int k = 0; k < 4; k++) parts[k] = 1 + random.nextInt(9);
+        for (int s = 0; s < 4; s++) {
+            int u = random.nextInt(6);
+            int v = random.nextInt(6);
+            f[s][a] = parts[0] * u + parts[1] * v;
+            f[s][b] = parts[2] * u;
+            f[s][c] = parts[3] * v;
+        }
     }
 
     private static void compareWitness(GlassHouse x, int[][] f, Rational[] row) {
