@@ -131,6 +131,18 @@ public final class ActsEdgesTest {
         for (int place = 0; place < 40; place++) x.step(0, place % 2 == 1 ? END : place == 0 ? TRY : place == 38 ? LAST : CATCH, 8, 0, 0);
         Check.due("any number of CATCHES", x.formed(0), NONE);
         Check.due("run", x.run(0), 0);
+        ran(x, "18 CATCHES and LAST are no STEPS", 0, 1, NONE, 0, 0, 1, 0, 0, 0);
+        x.drop(0);
+        for (int place = 0; place < 40; place++) x.step(0, place % 2 == 1 ? END : place == 0 ? TRY : CATCH, 0, 0, 0);
+        Check.due("19 CATCHES", x.formed(0) * 10 + x.run(0), 10 * NONE);
+        ran(x, "19 CATCHES are no STEPS", 0, 1, NONE, 0, 0, 0, 0, 0, 0);
+        x.drop(0);
+        x.step(0, TRY, 0, 0, 0);
+        x.step(0, FAIL, 4, 0, 0);
+        x.step(0, END, 0, 0, 0);
+        for (int k = 0; k < 36; k++) x.step(0, k % 2 == 1 ? END : CATCH, k == 34 ? 8 : 7, 0, 0);
+        Check.due("the 18th meets it", x.run(0), 0);
+        ran(x, "the 18th", 0, 2, NONE, 0, 1, 0, 0, 0, 1);
     }
 
     private static void needsNumbersThatAre() {
