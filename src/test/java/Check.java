@@ -3,24 +3,7 @@ final class Check {
     private static int wrong = 0;
     private static int looked = 0;
 
-    static {
-        Thread watch = new Thread(Check::endLate);
-        watch.setDaemon(true);
-        watch.start();
-    }
-
     private Check() {
-    }
-
-    /** A call that does not end is wrong, too; a test needs some seconds at most. */
-    private static void endLate() {
-        try {
-            Thread.sleep(240_000);
-        } catch (InterruptedException e) {
-            return;
-        }
-        System.out.println("a test did not end in time");
-        Runtime.getRuntime().halt(1);
     }
 
     static void due(String what, long got, long want) {
