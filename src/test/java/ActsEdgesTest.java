@@ -18,6 +18,7 @@ public final class ActsEdgesTest {
         failsAndAnswersWithAnyNumber();
         wakesWhatIsHeld();
         takesUpToAll();
+        takesAsOftenAsMayBe();
         opensNewestFirst();
         keepsUpToTheLastStep();
         goesAgain1To9Times();
@@ -299,6 +300,33 @@ public final class ActsEdgesTest {
         x.setStock(0, 7);
         Check.due("it wraps back", runOf(x, s(TAKE, 0, 7), s(ADD, 0, -1), s(OVER, 0, 1), s(END)), 0);
         Check.due("what the BODY did stays", x.stock(0), 6);
+    }
+
+    /** 14 times 18 in one another: hardly a STEP that does not change a STOCK twice. */
+    private static void takesAsOftenAsMayBe() {
+        GlassHouse x = new GlassHouse();
+        x.setStock(0, 100);
+        x.setStock(1, 14);
+        x.step(0, LOOP, 1, 0, 0);
+        for (int i = 0; i < 18; i++) x.step(0, TAKE, 0, 1, 0);
+        for (int i = 0; i < 18; i++) x.step(0, END, 0, 0, 0);
+        x.step(0, ADD, 1, -1, 0);
+        x.step(0, END, 0, 0, 0);
+        Check.due("what is given back goes back on every way out", x.run(0), 0);
+        ran(x, "of many TAKES", 0, 281, NONE, 0, 0, 0, 0, 0, 0);
+        Check.due("what was taken", x.stock(0), 100);
+        Check.due("how often", x.stock(1), 0);
+        x.setStock(1, 20);
+        Check.due("with the 301st the RUN is SPENT", x.run(0), SPENT);
+        ran(x, "of more TAKES", 0, 300, NONE, 0, 0, 0, 0, 0, 0);
+        Check.due("what was taken in a RUN that is SPENT", x.stock(0), 100);
+        Check.due("STOCK stays as it is", x.stock(1), 5);
+        x.setStock(1, 14);
+        Check.due("the last STEP there may be", x.step(0, FAIL, 9, 0, 0), 39);
+        Check.due("a FAULT behind many TAKES", x.run(0), OWN);
+        ran(x, "of many TAKES and a FAULT", 0, 282, 39, 0, 0, 0, 0, 9, 1);
+        Check.due("all STOCK is as ahead of it", x.stock(0), 100);
+        Check.due("all STOCK is as ahead of it, the other one", x.stock(1), 14);
     }
 
     private static void opensNewestFirst() {
